@@ -21,11 +21,8 @@ public final class PaidBySigns {
     private static final int MOST_SEEN = 8;
     private static final int MOST_RIGHTS = 20;
 
-    private final byte[] tape = new byte[MOST_BYTES];
-    private int bytes = 0;
+    private final Reader reader = new Reader();
     private Hire hire = new Hire();
-    private Hire spare = new Hire();
-    private final Reader reader = new Reader(tape, spare);
     private final int[] hand = new int[MOST_SIGNS];
     private final Fraction latest = new Fraction();
     private final Fraction trial = new Fraction();
@@ -33,7 +30,7 @@ public final class PaidBySigns {
     private final long[] wageUpper = new long[MOST_SIGNS];
     private final long[] wageLower = new long[MOST_SIGNS];
     private boolean hasWages = false;
-    private final LeastCost cheapest = new LeastCost(hire);
+    private final LeastCost cheapest = new LeastCost();
     private final OneSum oneSum = new OneSum();
     private final CoinSearch coinSearch = new CoinSearch();
     private final Proofs proofs = new Proofs();
@@ -43,34 +40,34 @@ public final class PaidBySigns {
     }
 
     public int feed(int a, int b, int c, int d, int e) {
-        if (bytes + 20 > MOST_BYTES) {
+        if (reader.length + 20 > MOST_BYTES) {
             return FULL;
         }
-        append(a);
-        append(b);
-        append(c);
-        append(d);
-        append(e);
-        return bytes;
+        reader.append(a);
+        reader.append(b);
+        reader.append(c);
+        reader.append(d);
+        reader.append(e);
+        return reader.length;
     }
 
     public int end(int n) {
-        if (n < 0 || n > bytes) {
+        if (n < 0 || n > reader.length) {
             return NONE;
         }
-        bytes = n;
+        reader.length = n;
         return n;
     }
 
     public int hire() {
-        boolean isRead = reader.readText(bytes, spare);
-        bytes = 0;
+        boolean isRead = reader.readText();
+        reader.length = 0;
         if (!isRead) {
             return NONE;
         }
         Hire earlier = hire;
-        hire = spare;
-        spare = earlier;
+        hire = reader.into;
+        reader.into = earlier;
         Arrays.fill(hand, hire.least);
         latest.forget();
         hasWages = false;
@@ -425,16 +422,9 @@ public final class PaidBySigns {
             case 2:
                 return proofs.lowerNumber;
             case 3:
-                return bytes;
+                return reader.length;
             default:
                 return NONE;
-        }
-    }
-
-    private void append(int four) {
-        for (int shift = 24; shift >= 0 && bytes < MOST_BYTES; shift -= 8) {
-            tape[bytes] = (byte) (four >>> shift);
-            bytes++;
         }
     }
 
@@ -638,7 +628,7 @@ public final class PaidBySigns {
         }
     }
 
-    /** Reads a text into a HIRE, one TOKEN at a time, up to its first FAULT. */
+    /** THE TAPE, and how it is read into a HIRE, one TOKEN at a time, up to the first FAULT. */
     static final class Reader {
         static final int SYNTAX = 1;
         static final int OUT_OF_BOUNDS = 2;
@@ -655,11 +645,11 @@ public final class PaidBySigns {
         static final int MOST_LETTERS = 8;
         static final int MOST_DIGITS = 4;
 
+        int length = 0;
         int faultKind = 0;
         int faultPlace = NONE;
-        private final byte[] text;
-        private Hire into;
-        private int length = 0;
+        Hire into = new Hire();
+        private final byte[] text = new byte[MOST_BYTES];
         private int next = 0;
         private int token = AT_END;
         private int start = 0;
@@ -670,15 +660,15 @@ public final class PaidBySigns {
         private boolean hasLeast = false;
         private boolean hasFeel = false;
 
-        Reader(byte[] tape, Hire first) {
-            text = tape;
-            into = first;
+        void append(int four) {
+            for (int shift = 24; shift >= 0 && length < MOST_BYTES; shift -= 8) {
+                text[length] = (byte) (four >>> shift);
+                length++;
+            }
         }
 
-        boolean readText(int bytesOfIt, Hire target) {
-            length = Math.min(bytesOfIt, text.length);
+        boolean readText() {
             next = 0;
-            into = target;
             into.clear();
             hasElse = false;
             hasLeast = false;
@@ -1098,14 +1088,10 @@ public final class PaidBySigns {
         private final int[] columnRoom = new int[Table.MOST_COLUMNS];
         private int columns = 0;
         private int rooms = 0;
-        private Hire hire;
+        private Hire hire = new Hire();
         private int work = 0;
         private int keptSign = NONE;
         private int joinedSign = NONE;
-
-        LeastCost(Hire first) {
-            hire = first;
-        }
 
         boolean findCost(Hire of, int a) {
             return find(of, a, NONE, NONE, 1);
@@ -1348,7 +1334,7 @@ public final class PaidBySigns {
 
         private void fillFelt(Hire hire) {
             int atLeast = hire.feltOf(hire.least);
-            for (int coin = 0; coin <= most; coin++) {
+            for (int coin = 0; coin <= MOST_COINS; coin++) {
                 felt[coin] = hire.feltOf(hire.least + coin) - atLeast;
             }
         }
@@ -1384,8 +1370,30 @@ public final class PaidBySigns {
                 for (int b = 0; b < lines; b++) {
                     left[s + 1][b] = left[s][b] - share[b][s] * felt[coin];
                 }
-                place(s + 1, costThen);
+                if (canBeCheaper(s + 1, costThen)) {
+                    place(s + 1, costThen);
+                }
             }
+        }
+
+        /** No line's need can be met cheaper than by the SIGN that helps it most for its cost. */
+        private boolean canBeCheaper(int from, int cost) {
+            long room = (long) bestCost - cost;
+            for (int b = 0; b < lines; b++) {
+                int help = 0;
+                int price = 1;
+                for (int s = from; s < signs; s++) {
+                    if (share[b][s] * price > help * own[s]) {
+                        help = share[b][s];
+                        price = own[s];
+                    }
+                }
+                // The first coin is felt most.
+                if (help > 0 && left[from][b] > 0 && (long) left[from][b] * price >= room * help * felt[1]) {
+                    return false;
+                }
+            }
+            return true;
         }
 
         private int firstCoin(int s) {
