@@ -608,6 +608,14 @@ public final class PaidBySigns {
             return done;
         }
 
+        /**
+         * How much more than at least alone must be felt of a WORK's wages in the mean: more than of
+         * another one's, to make up for its costs; in the WORK's own place, to reach else.
+         */
+        int lackOf(int a, int b) {
+            return b == a ? costs[a] + otherwise - feltOf(least) : costs[a] - costs[b];
+        }
+
         int broughtBy(int a) {
             int sum = 0;
             for (int s = 0; s < signs; s++) {
@@ -765,9 +773,13 @@ public final class PaidBySigns {
             // Each REST comes once at most: the fourth one ends the loop by its FAULT.
             for (int rest = 0; rest < 4 && isFine && token != AT_END; rest++) {
                 if (isWord("else")) {
-                    isFine = readElse();
+                    isFine = readNumberOnce(hasElse);
+                    hasElse = true;
+                    into.otherwise = value;
                 } else if (isWord("least")) {
-                    isFine = readLeast();
+                    isFine = readNumberOnce(hasLeast);
+                    hasLeast = true;
+                    into.least = value;
                 } else if (isWord("feel")) {
                     isFine = readFeel();
                 } else {
@@ -777,30 +789,15 @@ public final class PaidBySigns {
             return isFine;
         }
 
-        private boolean readElse() {
-            if (hasElse) {
+        /** The N behind else or least; it stays the value. */
+        private boolean readNumberOnce(boolean isAgain) {
+            if (isAgain) {
                 return fail(TWICE);
             }
-            hasElse = true;
             advance();
             if (!isNumber(0, 99)) {
                 return false;
             }
-            into.otherwise = value;
-            advance();
-            return passSemicolon();
-        }
-
-        private boolean readLeast() {
-            if (hasLeast) {
-                return fail(TWICE);
-            }
-            hasLeast = true;
-            advance();
-            if (!isNumber(0, 99)) {
-                return false;
-            }
-            into.least = value;
             advance();
             return passSemicolon();
         }
@@ -1186,18 +1183,13 @@ public final class PaidBySigns {
             return columnRate[j] < 1 ? 0 : PARTS / columnRate[j];
         }
 
-        /** A line for each other WORK; in the WORK's own place the one for else. */
         private void fillLines(int first) {
             for (int b = 0; b < hire.works; b++) {
                 long[] line = table.entry[first + b];
-                boolean isElse = b == work;
-                int sum = isElse
-                    ? hire.costs[work] + hire.otherwise - hire.feltOf(hire.least)
-                    : hire.costs[work] - hire.costs[b];
-                line[0] = -(long) hire.whole * sum;
+                line[0] = -(long) hire.whole * hire.lackOf(work, b);
                 for (int j = 0; j < columns; j++) {
                     int s = columnSign[j];
-                    line[j + 1] = (isElse ? 0 : chanceOf(b, s)) - chanceOf(work, s);
+                    line[j + 1] = (b == work ? 0 : chanceOf(b, s)) - chanceOf(work, s);
                 }
             }
         }
@@ -1241,10 +1233,9 @@ public final class PaidBySigns {
             start();
             int good = hire.chanceFrom(a, bar);
             for (int b = 0; b < hire.works; b++) {
-                int more = good - hire.chanceFrom(b, bar);
-                need((long) more * weight, (long) all * (hire.costs[a] - hire.costs[b]));
+                int more = good - (b == a ? 0 : hire.chanceFrom(b, bar));
+                need((long) more * weight, (long) all * hire.lackOf(a, b));
             }
-            need((long) good * weight, (long) all * elseOf(hire, a));
             return isMet();
         }
 
@@ -1252,11 +1243,8 @@ public final class PaidBySigns {
         boolean settleWatched(Hire hire, int a, int q) {
             start();
             for (int b = 0; b < hire.works; b++) {
-                if (b != a) {
-                    need(q, (long) hire.whole * (hire.costs[a] - hire.costs[b]));
-                }
+                need(b == a ? hire.whole : q, (long) hire.whole * hire.lackOf(a, b));
             }
-            need(1, elseOf(hire, a));
             return isMet();
         }
 
@@ -1266,10 +1254,6 @@ public final class PaidBySigns {
             hire.wageOf(felt * lowLower + lowUpper, lowLower, into);
             long paid = ways * into.upper + (long) (all - ways) * hire.least * into.lower;
             into.become(paid, all * into.lower);
-        }
-
-        private static int elseOf(Hire hire, int a) {
-            return hire.costs[a] + hire.otherwise - hire.feltOf(hire.least);
         }
 
         private void start() {
@@ -1339,16 +1323,11 @@ public final class PaidBySigns {
             }
         }
 
-        /** A line for each other WORK; in the WORK's own place the one for else. */
         private void fillLine(Hire hire, int a, int b) {
-            boolean isElse = b == a;
-            int sum = isElse
-                ? hire.costs[a] + hire.otherwise - hire.feltOf(hire.least)
-                : hire.costs[a] - hire.costs[b];
-            left[0][b] = hire.whole * sum;
+            left[0][b] = hire.whole * hire.lackOf(a, b);
             rest[b][signs] = 0;
             for (int s = signs - 1; s >= 0; s--) {
-                share[b][s] = hire.chances[a][s] - (isElse ? 0 : hire.chances[b][s]);
+                share[b][s] = hire.chances[a][s] - (b == a ? 0 : hire.chances[b][s]);
                 rest[b][s] = rest[b][s + 1] + Math.max(0, share[b][s]) * felt[most];
             }
         }

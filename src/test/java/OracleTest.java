@@ -19,6 +19,20 @@ public final class OracleTest {
             }
             best(text, x, m, dice);
         }
+        for (int round = 0; round < rounds && check.wrong() < 20; round++) {
+            Model m = Model.random(dice);
+            // Low costs, so that few coins will often do.
+            for (int a = 0; a < m.works(); a++) {
+                m.costs[a] %= 8;
+            }
+            m.other %= 8;
+            m.least %= 8;
+            String text = m.text();
+            PaidBySigns x = Check.hired(text);
+            for (int a = 0; a < m.works(); a++) {
+                coins(text, x, m, a, dice.nextInt(m.signs() == 4 ? 13 : 21));
+            }
+        }
         check.finish();
     }
 
@@ -83,7 +97,10 @@ public final class OracleTest {
         Model.Found watch = m.watch(a, price);
         told(text + " watch(" + a + ", " + price + ")", x, x.watch(a, price), watch.cost(), watch.which());
 
-        int most = m.signs() == 4 ? dice.nextInt(10) : dice.nextInt(21);
+        coins(text, x, m, a, dice.nextInt(m.signs() == 4 ? 10 : 21));
+    }
+
+    private static void coins(String text, PaidBySigns x, Model m, int a, int most) {
         Model.Found coins = m.coins(a, most);
         String call = text + " coins(" + a + ", " + most + ")";
         told(call, x, x.coins(a, most), coins == null ? null : coins.cost(), 1);

@@ -136,6 +136,10 @@ public final class ProofTest {
         x.mix(0, 1);
         x.mix(1, 1);
         check.due("it costs as much", x.same(2), 0);
+        x = Check.hired(MEAN.replace("costs 3", "costs 2").replace("costs 4", "costs 3"));
+        x.mix(0, 1);
+        x.mix(1, 1);
+        check.due("it costs a little less", x.same(2), 1);
         x = Check.hired(MEAN);
         x.mix(2, 7);
         check.due("itself alone is nothing", x.same(2), 0);
@@ -164,6 +168,15 @@ public final class ProofTest {
         x = Check.hired("sign a brings 0;sign b brings 10;work x costs 0 chances 10 0;work y costs 4 chances 0 10;");
         check.due("nothing to move", x.edge(1, 0, 1), -1);
         check.due("nothing to move", x.edge(0, 1, 0), -1);
+        // z leaves 6 - e, y 10 less 40 / (4 + e).
+        x = Check.hired("sign a brings 0;sign b brings 10;work x costs 0 chances 10 0;work y costs 4 chances 0 10;"
+            + "work z costs 0 chances 4 6;");
+        check.due("best()", x.best(), 2);
+        check.due("edge(2, 1, 0)", x.edge(2, 1, 0), 3);
+        // y leaves 10 - e - 9, x nothing.
+        x = Check.hired("sign a brings 0;sign b brings 10;work x costs 0 chances 10 0;work y costs 9 chances 0 10;");
+        check.due("best()", x.best(), 1);
+        check.due("one is enough", x.edge(1, 1, 0), 1);
     }
 
     private static void ratio() {

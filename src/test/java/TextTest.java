@@ -38,7 +38,12 @@ public final class TextTest {
         check.due("end(MAX)", x.end(Integer.MAX_VALUE), -1);
         check.due("end(MIN)", x.end(Integer.MIN_VALUE), -1);
 
-        // The highest byte first: "sign" "s br" ..
+        check.due("feed", x.feed(0, 0, 0, 0, 0), 20);
+        check.due("end(20) of 20", x.end(20), 20);
+        check.due("end(21) of 20", x.end(21), -1);
+        x.end(0);
+
+        // The highest byte first: "sign" " q ?" ..
         x.feed('s' << 24 | 'i' << 16 | 'g' << 8 | 'n', ' ' << 24 | 'q' << 16 | ' ' << 8 | '?', 0, 0, 0);
         check.due("hire()", x.hire(), -1);
         check.due("fault(0)", x.fault(0), 1);
@@ -104,6 +109,24 @@ public final class TextTest {
         fault("a minus", "whole -1;", 1, 6);
         fault("its end behind blanks", "sign a \n ", 1, 9);
         fault("nothing but blanks", "   ", 1, 3);
+        fault("a word like sign", "zign a", 1, 0);
+        fault("a word like sign", "sigh a", 1, 0);
+        fault("more than sign", "signs a", 1, 0);
+        fault("less than sign", "sig a", 1, 0);
+        PaidBySigns x = new PaidBySigns();
+        Check.tape(x, "sign abcd");
+        x.end(6);
+        check.due("what is cut off is not read", x.hire(), -1);
+        check.due("what is cut off is not read", x.fault(1), 6);
+        Check.tape(x, SIGNS + WORKS + "least 77;");
+        x.end((SIGNS + WORKS).length());
+        check.due("what is cut off is not read", x.hire(), 2);
+        check.due("what is cut off is not read", x.told(4), 0);
+        Check.tape(x, SIGNS + WORKS + "least 777;");
+        x.end((SIGNS + WORKS).length() + 7);
+        x.feed(';' << 24 | ' ' << 16 | ' ' << 8 | ' ', 0x20202020, 0x20202020, 0x20202020, 0x20202020);
+        check.due("what comes behind the cut", x.hire(), 2);
+        check.due("what comes behind the cut", x.told(4), 7);
     }
 
     private static void syntax() {
@@ -166,6 +189,7 @@ public final class TextTest {
         fault("a SIGN's name", "sign a brings 1;sign b brings 2;sign a", 3, 37);
         fault("a WORK's name", SIGNS + "work x costs 0 chances 4 6;work x", 3, 64);
         fault("the third as the second", SIGNS + WORKS + "work y", 3, 91);
+        fault("a name ahead of another blank", "sign a brings 1;sign a\nbrings 1;", 3, 21);
         fault("else", SIGNS + WORKS + "else 1;feel 1;else 1;", 3, 100);
         fault("least", SIGNS + WORKS + "least 1;least 1;", 3, 94);
         fault("feel", SIGNS + WORKS + "feel 1;feel 1;", 3, 93);
