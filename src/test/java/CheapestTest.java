@@ -1,11 +1,8 @@
 /** The cheapest wages (promises 14 to 24). */
 public final class CheapestTest {
     private static final Check check = new Check("CheapestTest");
-    private static final String TWO = "sign low brings 10;sign high brings 100;"
-        + "work rest costs 0 chances 8 2;work toil costs 6 chances 2 8;";
-    /** The third WORK is the mean of the other two, but dearer: no wages bring it about. */
-    private static final String MEAN = "sign a brings 0;sign b brings 10;work x costs 0 chances 10 0;"
-        + "work y costs 4 chances 0 10;work z costs 3 chances 5 5;";
+    private static final String TWO = Hires.TWO;
+    private static final String MEAN = Hires.MEAN;
 
     public static void main(String[] args) {
         make();

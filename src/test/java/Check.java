@@ -1,6 +1,13 @@
+import java.io.IOException;
+import java.nio.file.Files;
+import java.nio.file.Path;
+import java.util.function.ToLongFunction;
+
 /** Counts the answers that are not as due, and feeds texts. */
 final class Check {
     private final String name;
+    private String document = null;
+    private String sentence = "";
     private int wrong = 0;
     private int calls = 0;
 
@@ -8,12 +15,31 @@ final class Check {
         this.name = name;
     }
 
+    /** The sentence of the document by which the answers that follow are due, with the place where it stands. */
+    void by(String place, String words) {
+        sentence = place + ": \"" + words + "\": ";
+        if (document == null) {
+            document = readDocument();
+        }
+        // Where the document is not at hand (the tests run from elsewhere), nothing is compared.
+        due("is a sentence of the document", document.isEmpty() || document.contains(words) ? 1 : 0, 1);
+    }
+
+    private static String readDocument() {
+        Path path = Path.of("..", "shared", "DOC.md");
+        try {
+            return Files.exists(path) ? Files.readString(path) : "";
+        } catch (IOException e) {
+            return "";
+        }
+    }
+
     void due(String call, long got, long want) {
         calls++;
         if (got != want) {
             wrong++;
             if (wrong <= 40) {
-                System.out.println(name + ": " + call + " answered " + got + ", due is " + want);
+                System.out.println(name + ": " + sentence + call + " answered " + got + ", due is " + want);
             }
         }
     }
@@ -26,6 +52,20 @@ final class Check {
 
     void noFraction(String call, PaidBySigns x) {
         fraction(call, x, -2000000000L, 0);
+    }
+
+    /** A call on an object with much to tell: its answer is due, and it leaves all as it was. */
+    void refused(String call, ToLongFunction<PaidBySigns> asked, long want) {
+        PaidBySigns x = State.rich();
+        String before = State.seenBy(x);
+        due(call, asked.applyAsLong(x), want);
+        String after = State.seenBy(x);
+        due(call + " leaves all as it was: " + before + " and " + after, before.equals(after) ? 1 : 0, 1);
+    }
+
+    /** A call on a new object. */
+    void withoutHire(String call, ToLongFunction<PaidBySigns> asked, long want) {
+        due(call + " without a HIRE", asked.applyAsLong(new PaidBySigns()), want);
     }
 
     int wrong() {

@@ -1,10 +1,8 @@
 /** What he did, guessed from SEEN SIGNS (promises 33 to 37). */
 public final class DiaryTest {
     private static final Check check = new Check("DiaryTest");
-    private static final String TWO = "sign low brings 10;sign high brings 100;"
-        + "work rest costs 0 chances 8 2;work toil costs 6 chances 2 8;";
-    private static final String SURE = "sign a brings 0;sign b brings 1;sign c brings 2;"
-        + "work x costs 0 chances 10 0 0;work y costs 0 chances 0 10 0;work z costs 0 chances 5 5 0;";
+    private static final String TWO = Hires.TWO;
+    private static final String SURE = Hires.SURE;
 
     public static void main(String[] args) {
         see();

@@ -1,8 +1,7 @@
 /** What he does at wages told by HAND (promises 7 to 13). */
 public final class HandTest {
     private static final Check check = new Check("HandTest");
-    private static final String TWO = "sign low brings 10;sign high brings 100;"
-        + "work rest costs 0 chances 8 2;work toil costs 6 chances 2 8;";
+    private static final String TWO = Hires.TWO;
     private static final int NO_NUMBER = -2000000000;
 
     public static void main(String[] args) {

@@ -1,8 +1,8 @@
 /** THE TAPE and the text of a HIRE (promises 2 to 6). */
 public final class TextTest {
     private static final Check check = new Check("TextTest");
-    private static final String SIGNS = "sign a brings 1;sign b brings 2;";
-    private static final String WORKS = "work x costs 0 chances 4 6;work y costs 1 chances 5 5;";
+    private static final String SIGNS = Hires.SIGNS;
+    private static final String WORKS = Hires.WORKS;
 
     public static void main(String[] args) {
         tape();
