@@ -31,6 +31,7 @@ public final class CheapestBoundsTest {
         barAtSign();
         barCost();
         crewAtSign();
+        oneBehindAnother();
         watchForPrice();
         fractions();
         upperAndLower();
@@ -208,6 +209,14 @@ public final class CheapestBoundsTest {
         none(TWO, x -> x.coins(1, 0));
         none(TWO + "else 20;", x -> x.coins(0, 19));
         tells(TWO + "else 20;", x -> x.coins(0, 20), 1, 20, 1);
+        none(TWO + "else 20;least 5;", x -> x.coins(0, 14));
+        tells(TWO + "else 20;least 5;", x -> x.coins(0, 15), 1, 20, 1);
+        // rest: 8 times low's wage and 2 times high's are 30, and high's is 10 more at the most.
+        pays(TWO + "else 3;", x -> x.coins(0, 20), 1, 1, 11, 1);
+        pays(TWO + "else 3;", x -> x.coins(0, 10), 2, 1, 7, 1);
+        none(TWO + "else 3;", x -> x.coins(0, 2));
+        none(MEAN, x -> x.coins(2, 20));
+        pays(EVEN, x -> x.coins(2, 20), 0, 1, 4, 1);
         check.by("Term III", "its WAGES likewise the least by SIGNS");
         pays(QUARTERS, x -> x.coins(1, 20), 0, 1, 0, 1, 0, 1, 12, 1);
         pays(QUARTERS, x -> x.coins(1, 12), 0, 1, 0, 1, 0, 1, 12, 1);
@@ -235,6 +244,17 @@ public final class CheapestBoundsTest {
         none(MEAN, x -> x.bar(2));
         tells(TWO + "else 2;", x -> x.bar(1), 1, 8, 1);
         tells(TWO + "else 3;", x -> x.bar(1), 1, 9, 1);
+        // Of two WORKS that are done for more the one that is done first counts, in whatever order they come.
+        String more = "work u costs 9 chances 4 6;";
+        tells(EVEN + more, x -> x.bar(2), 1, 2, 1);
+        none(MEAN + more, x -> x.bar(2));
+        tells(EVEN.replace("work y", more + "work y"), x -> x.bar(3), 1, 2, 1);
+        none(MEAN.replace("work y", more + "work y"), x -> x.bar(3));
+        // u by 1 of 10 more for high: at 2 z is never done, at 3 up to a sum of 10.
+        none("sign a brings 0;sign b brings 10;work x costs 0 chances 10 0;work u costs 2 chances 4 6;"
+            + "work z costs 2 chances 5 5;", x -> x.bar(2));
+        tells("sign a brings 0;sign b brings 10;work x costs 0 chances 10 0;work u costs 3 chances 4 6;"
+            + "work z costs 2 chances 5 5;", x -> x.bar(2), 1, 2, 1);
         // With all paid alike rest is done for 5, but a bar at high would pay toil more than rest.
         tells(TWO + "else 5;", x -> x.bar(0), 0, 5, 1);
         // At most 10 for high alone: 2 of 10 of it is just else 2.
@@ -270,6 +290,40 @@ public final class CheapestBoundsTest {
         tells(TWO + "else 2;", x -> x.crew(1, 1), 1, 8, 1);
         tells(TWO + "else 3;", x -> x.crew(1, 1), 1, 9, 1);
         tells(PARTS, x -> x.crew(1, 1), 1, 20, 3);
+        check.by("Term III", "CREW COST: what one hand is paid in the mean.");
+        // 12.5 must be felt: 5 coins are 10, 2.5 more; 64 of 100 times.
+        tells(TWO + "feel 2 5 1;", x -> x.crew(1, 1), 1, 24, 5);
+        tells(TWO + "feel 2 5 1;least 5;", x -> x.crew(1, 1), 1, 13, 1);
+        tells(TWO + "feel 2 5 1;least 6;", x -> x.crew(1, 1), 1, 14, 1);
+    }
+
+    /** What one call looked into is not left over for the next. */
+    private static void oneBehindAnother() {
+        check.by("Not promised", "Nothing is promised beyond the answers and state changes described above");
+        PaidBySigns x = Check.hired(MEAN);
+        for (int times = 0; times < 3; times++) {
+            check.due("bar(2)", x.bar(2), -1);
+            check.due("make(2)", x.make(2), -1);
+            check.due("crew(2, 1)", x.crew(2, 1), -1);
+            check.due("watch(1, 0)", x.watch(1, 0), 10);
+            check.fraction("watch(1, 0)", x, 4, 1);
+            check.due("coins(2, 20)", x.coins(2, 20), -1);
+            check.due("bar(1)", x.bar(1), 1);
+            check.fraction("bar(1)", x, 4, 1);
+            check.due("crew(1, 1)", x.crew(1, 1), 1);
+            check.fraction("crew(1, 1)", x, 4, 1);
+            check.due("merged(2, 0, 1)", x.merged(2, 0, 1), -1);
+            check.due("make(0)", x.make(0), 1);
+            check.fraction("make(0)", x, 0, 1);
+            check.due("coins(1, 20)", x.coins(1, 20), 1);
+            check.fraction("coins(1, 20)", x, 4, 1);
+            check.due("make(1)", x.make(1), 1);
+            check.fraction("make(1)", x, 4, 1);
+            check.due("wages(0, false)", x.wages(0, false), 0);
+            check.due("wages(1, false)", x.wages(1, false), 4);
+            check.due("best()", x.best(), 1);
+            check.fraction("best()", x, 6, 1);
+        }
     }
 
     private static void watchForPrice() {
@@ -290,7 +344,9 @@ public final class CheapestBoundsTest {
         check.by("Term III", "the least x by which the WORK's WORTH is not below any other's and not below else; WATCH COST");
         tells(half + "else 6;", x -> x.watch(1, 13), 1, 37, 2);
         tells(half + "else 7;", x -> x.watch(1, 13), 1, 39, 2);
+        check.by("Term III", "a wage x (least or more) for all SIGNS, but least if he is watched doing another WORK");
         tells(half + "least 9;", x -> x.watch(1, 0), 2, 15, 1);
+        tells(half + "least 9;", x -> x.watch(1, 12), 1, 27, 1);
         tells(half + "least 9;", x -> x.watch(0, 9999), 0, 9, 1);
     }
 

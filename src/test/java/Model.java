@@ -45,6 +45,29 @@ final class Model {
         return m;
     }
 
+    /** As many SIGNS, WORKS and RATES as there can be, with all numbers up to their bounds. */
+    static Model largest(Random dice) {
+        Model m = new Model();
+        m.brings = new int[4];
+        for (int s = 0; s < 4; s++) {
+            m.brings[s] = dice.nextInt(4) == 0 ? 999 * dice.nextInt(2) : dice.nextInt(1000);
+        }
+        m.costs = new int[5];
+        m.chances = new int[5][4];
+        for (int a = 0; a < 5; a++) {
+            m.costs[a] = dice.nextInt(3) == 0 ? 99 * dice.nextInt(2) : dice.nextInt(100);
+            for (int i = 0; i < 10; i++) {
+                m.chances[a][i < 4 && dice.nextInt(3) > 0 ? i : dice.nextInt(4)]++;
+            }
+        }
+        m.other = dice.nextBoolean() ? dice.nextInt(4) : dice.nextInt(100);
+        m.least = dice.nextBoolean() ? dice.nextInt(4) : dice.nextInt(100);
+        m.rates = dice.nextBoolean() ? new int[] {5, 4, 3} : new int[] {5, 3, 1};
+        int mark = 1 + dice.nextInt(dice.nextBoolean() ? 10 : 98);
+        m.marks = new int[] {mark, mark + 1 + dice.nextInt(Math.min(99 - mark, dice.nextBoolean() ? 10 : 98))};
+        return m;
+    }
+
     private static void shuffle(int[] row, Random dice) {
         for (int i = row.length - 1; i > 0; i--) {
             int j = dice.nextInt(i + 1);
@@ -154,6 +177,80 @@ final class Model {
             }
         }
         return true;
+    }
+
+    Ratio leaves(int a, Ratio[] wages) {
+        Ratio sum = Ratio.ZERO;
+        for (int s = 0; s < signs(); s++) {
+            sum = sum.plus(Ratio.of((long) chances[a][s] * brings[s], whole));
+        }
+        return sum.minus(cost(a, wages));
+    }
+
+    int does(Ratio[] wages) {
+        int done = 0;
+        for (int a = 1; a < works(); a++) {
+            int order = worth(a, wages).compareTo(worth(done, wages));
+            if (order > 0 || (order == 0 && leaves(a, wages).compareTo(leaves(done, wages)) > 0)) {
+                done = a;
+            }
+        }
+        return done;
+    }
+
+    boolean isRatio(int a, int b) {
+        boolean isSo = true;
+        for (int s = 0; s < signs(); s++) {
+            for (int t = 0; t < signs(); t++) {
+                boolean isLess = chances[a][t] * chances[b][s] < chances[a][s] * chances[b][t];
+                isSo &= brings[t] <= brings[s] || !isLess;
+            }
+        }
+        return isSo;
+    }
+
+    boolean isProvedBy(int[] mix, int a) {
+        int[] numbers = mix.clone();
+        numbers[a] = 0;
+        int sum = 0;
+        for (int n : numbers) {
+            sum += n;
+        }
+        if (sum == 0) {
+            return false;
+        }
+        Ratio dear = Ratio.ZERO;
+        Ratio[] comes = new Ratio[signs()];
+        for (int s = 0; s < signs(); s++) {
+            comes[s] = Ratio.ZERO;
+        }
+        for (int b = 0; b < works(); b++) {
+            dear = dear.plus(Ratio.of((long) numbers[b] * costs[b], sum));
+            for (int s = 0; s < signs(); s++) {
+                comes[s] = comes[s].plus(Ratio.of((long) numbers[b] * chances[b][s], sum));
+            }
+        }
+        for (int s = 0; s < signs(); s++) {
+            if (comes[s].compareTo(Ratio.of(chances[a][s])) != 0) {
+                return false;
+            }
+        }
+        return dear.compareTo(Ratio.of(costs[a])) < 0;
+    }
+
+    /** ODDS by SIGNS that are known; null where all products are 0. */
+    Ratio odds(int a, List<Integer> known) {
+        long all = 0;
+        long own = 0;
+        for (int b = 0; b < works(); b++) {
+            long product = 1;
+            for (int s : known) {
+                product *= chances[b][s];
+            }
+            all += product;
+            own = b == a ? product : own;
+        }
+        return all == 0 ? null : Ratio.of(own, all);
     }
 
     /** LEAST COST: every point where enough bounds meet is looked at. same[s] is the SIGN s is paid like. */

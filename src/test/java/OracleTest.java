@@ -1,3 +1,5 @@
+import java.util.ArrayList;
+import java.util.List;
 import java.util.Random;
 
 /** Drawn HIRES: what the class tells against what the slow model counts out (promises 7 to 36). */
@@ -9,7 +11,7 @@ public final class OracleTest {
         long seed = args.length > 1 ? Long.parseLong(args[1]) : 7;
         Random dice = new Random(seed);
         for (int round = 0; round < rounds && check.wrong() < 20; round++) {
-            Model m = Model.random(dice);
+            Model m = round % 4 == 0 ? Model.largest(dice) : Model.random(dice);
             String text = m.text();
             PaidBySigns x = Check.hired(text);
             for (int a = 0; a < m.works(); a++) {
@@ -18,6 +20,8 @@ public final class OracleTest {
                 proofs(text, x, m, a, dice);
             }
             best(text, x, m, dice);
+            hand(text, Check.hired(text), m, dice);
+            diary(text, Check.hired(text), m, dice);
         }
         for (int round = 0; round < rounds && check.wrong() < 20; round++) {
             Model m = Model.random(dice);
@@ -32,6 +36,9 @@ public final class OracleTest {
             for (int a = 0; a < m.works(); a++) {
                 coins(text, x, m, a, dice.nextInt(m.signs() == 4 ? 13 : 21));
             }
+        }
+        for (int round = 0; round < rounds && check.wrong() < 20; round++) {
+            mixes(dice);
         }
         check.finish();
     }
@@ -124,6 +131,116 @@ public final class OracleTest {
         Model.Found found = m.leastCost(a);
         if (proved != null && found != null) {
             check.due(text + " proves(" + a + ") too much", proved.compareTo(found.cost()) > 0 ? 1 : 0, 0);
+        }
+    }
+
+    /** HAND with wages that often make WORKS alike, and RATIO of all pairs. */
+    private static void hand(String text, PaidBySigns x, Model m, Random dice) {
+        for (int turn = 0; turn < 4; turn++) {
+            Ratio[] wages = new Ratio[m.signs()];
+            for (int s = 0; s < m.signs(); s++) {
+                int w = m.least + (turn == 0 ? 0 : dice.nextInt(dice.nextBoolean() ? 6 : 9000));
+                wages[s] = Ratio.of(w);
+                x.wage(s, w);
+                check.due(text + " feeling(" + w + ")", x.feeling(w), m.felt(wages[s]).up);
+            }
+            int done = m.does(wages);
+            check.due(text + " does()", x.does(), done);
+            boolean isEnough = m.worth(done, wages).compareTo(Ratio.of(m.other)) >= 0;
+            check.due(text + " comes()", x.comes(), isEnough ? 1 : 0);
+            for (int a = 0; a < m.works(); a++) {
+                check.due(text + " worth(" + a + ")", x.worth(a), m.worth(a, wages).times(m.whole).up);
+                check.due(text + " leaves(" + a + ")", x.leaves(a), m.leaves(a, wages).times(m.whole).up);
+            }
+        }
+        for (int a = 0; a < m.works(); a++) {
+            for (int b = 0; b < m.works(); b++) {
+                check.due(text + " ratio(" + a + ", " + b + ")", x.ratio(a, b), m.isRatio(a, b) ? 1 : 0);
+            }
+        }
+    }
+
+    /** SEEN SIGNS told and put RIGHT in turn; {STEP, SEEN SIGN, SIGN} is kept of each. */
+    private static void diary(String text, PaidBySigns x, Model m, Random dice) {
+        List<int[]> told = new ArrayList<>();
+        int step = dice.nextInt(3);
+        int seen = 0;
+        for (int turn = 0; turn < 14; turn++) {
+            int s = dice.nextInt(m.signs());
+            if (seen < 8 && (seen == 0 || dice.nextBoolean())) {
+                check.due(text + " see(" + step + ", " + s + ")", x.see(step, s), seen);
+                told.add(new int[] {step, seen, s});
+                seen++;
+            } else {
+                step++;
+                int k = dice.nextInt(seen);
+                int times = 1;
+                for (int[] one : told) {
+                    times += one[1] == k ? 1 : 0;
+                }
+                check.due(text + " right(" + step + ", " + k + ", " + s + ")", x.right(step, k, s), times - 1);
+                told.add(new int[] {step, k, s});
+            }
+            step += dice.nextInt(2);
+        }
+        for (int known = 0; known < step + 2; known++) {
+            oddsAt(text, x, m, told, known);
+        }
+    }
+
+    private static void oddsAt(String text, PaidBySigns x, Model m, List<int[]> told, int step) {
+        Integer[] latest = new Integer[8];
+        for (int[] one : told) {
+            if (one[0] <= step) {
+                latest[one[1]] = one[2];
+            }
+        }
+        List<Integer> known = new ArrayList<>();
+        for (Integer s : latest) {
+            if (s != null) {
+                known.add(s);
+            }
+        }
+        int guessed = PaidBySigns.NONE;
+        for (int a = 0; a < m.works(); a++) {
+            Ratio odds = m.odds(a, known);
+            told(text + " odds(" + a + ", " + step + ")", x, x.odds(a, step), odds, 1);
+            if (odds != null && (guessed < 0 || odds.compareTo(m.odds(guessed, known)) > 0)) {
+                guessed = a;
+            }
+        }
+        check.due(text + " guess(" + step + ")", x.guess(step), guessed);
+    }
+
+    /** The last WORK's chances are now and then just those of a MIX of the others. */
+    private static void mixes(Random dice) {
+        Model m = Model.largest(dice);
+        int[] mix = new int[5];
+        for (int s = 0; s < 4; s++) {
+            m.chances[4][s] = 0;
+        }
+        for (int b = 0; b < 4; b++) {
+            m.chances[b] = new int[4];
+            m.chances[b][b] = 10;
+            m.chances[4][dice.nextInt(4)] += b == 0 ? 4 : 2;
+        }
+        int times = 1 + dice.nextInt(100);
+        for (int b = 0; b < 4; b++) {
+            mix[b] = m.chances[4][b] * times + (dice.nextInt(8) == 0 ? 1 : 0);
+            m.costs[b] = dice.nextInt(4);
+        }
+        mix[4] = dice.nextInt(1001);
+        m.costs[4] = dice.nextInt(4);
+        PaidBySigns x = Check.hired(m.text());
+        for (int b = 0; b < 5; b++) {
+            mix[b] = Math.min(mix[b], 1000);
+            x.mix(b, mix[b]);
+        }
+        for (int a = 0; a < 5; a++) {
+            check.due(m.text() + " same(" + a + ")", x.same(a), m.isProvedBy(mix, a) ? 1 : 0);
+        }
+        if (m.isProvedBy(mix, 4)) {
+            check.due(m.text() + " make(4)", x.make(4), PaidBySigns.NONE);
         }
     }
 

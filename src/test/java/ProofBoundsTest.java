@@ -184,6 +184,11 @@ public final class ProofBoundsTest {
         check.due("0 for what brings most", Check.hired(TWO.replace("brings 100", "brings 9")).rises(1), 0);
         check.due("alike in what they bring", Check.hired(TWO.replace("brings 100", "brings 10")).rises(1), 1);
         check.due("one more", Check.hired(TWO.replace("brings 100", "brings 11")).rises(1), 1);
+        String turned = "sign high brings 9;sign low brings 10;work rest costs 0 chances 2 8;"
+            + "work toil costs 6 chances 8 2;";
+        check.due("from the first SIGN on it falls", Check.hired(turned).rises(1), 0);
+        check.due("alike", Check.hired(turned.replace("brings 9", "brings 10")).rises(1), 1);
+        check.due("more", Check.hired(turned.replace("brings 9", "brings 11")).rises(1), 1);
         // Wages 0, 0, 0, 12: the last SIGN must bring as much as any.
         String quarters = "whole 4;sign a brings 0;sign b brings 1;sign c brings 2;sign d brings 2;"
             + "work x costs 0 chances 4 0 0 0;work y costs 3 chances 1 1 1 1;";

@@ -133,6 +133,24 @@ public final class TextBoundsTest {
         fault(1, "^signa" + tail);
         fault(1, "sign a ^bringsb 1;");
         fault(1, "^sig n" + tail);
+        wordsAlmost(PLAIN.replace("sign a", "whole 10;sign a") + "else 1;least 1;feel 1;");
+    }
+
+    /** Each word that is no name with another first letter, another last letter, one letter less, one more. */
+    private static void wordsAlmost(String text) {
+        String[] keys = {"whole", "sign", "brings", "work", "costs", "chances", "else", "least", "feel"};
+        fine(text, 2);
+        for (String key : keys) {
+            int place = text.indexOf(key);
+            String head = text.substring(0, place);
+            String tail = text.substring(place + key.length());
+            int last = key.length() - 1;
+            String[] almost = {"z" + key.substring(1), key.substring(0, last) + "z", key.substring(0, last), key + "z",
+                key.substring(1)};
+            for (String word : almost) {
+                faultAt(1, place, head + word + tail);
+            }
+        }
     }
 
     private static void numbers() {
@@ -374,6 +392,18 @@ public final class TextBoundsTest {
         check.due("told(30)", x.told(30), 1);
         check.due("told(31)", x.told(31), -1);
         check.due("told(40)", x.told(40), -1);
+        // Nothing of an earlier text is left, neither of one that was told nor of one with a FAULT.
+        String[] earlier = {Hires.MOST, Hires.MOST + "?", "whole 4;" + THREE + "work x costs 0 chances 4 0 0;?"};
+        for (String text : earlier) {
+            for (int times = 0; times < 2; times++) {
+                Check.hire(x, text);
+                Check.hire(x, Hires.MOST);
+                check.due("hire() behind others", Check.hire(x, PLAIN), 2);
+                for (int what = 0; what < due.length; what++) {
+                    check.due("told(" + what + ")", x.told(what), due[what]);
+                }
+            }
+        }
     }
 
     private static void places() {
