@@ -1286,8 +1286,11 @@ public final class PaidBySigns {
 
     /** COINS: wages are tried by SIGNS from the lowest on, so that of alike costs the first one stays. */
     static final class CoinSearch {
+        // Above any cost: no SIGN's chance times its coins comes near it.
+        static final int NO_COST = 1000000;
+
         final int[] chosen = new int[MOST_SIGNS];
-        int bestCost;
+        int bestCost = NO_COST;
         private final int[] felt = new int[MOST_COINS + 1];
         private final int[] own = new int[MOST_SIGNS];
         private final int[][] share = new int[MOST_WORKS][MOST_SIGNS];
@@ -1304,7 +1307,7 @@ public final class PaidBySigns {
             signs = hire.signs;
             lines = hire.works;
             most = Math.min(newMost, MOST_COINS);
-            bestCost = Integer.MAX_VALUE;
+            bestCost = NO_COST;
             fillFelt(hire);
             for (int b = 0; b < lines; b++) {
                 fillLine(hire, a, b);
@@ -1313,7 +1316,7 @@ public final class PaidBySigns {
                 own[s] = hire.chances[a][s];
             }
             place(0, 0);
-            return bestCost != Integer.MAX_VALUE;
+            return bestCost != NO_COST;
         }
 
         private void fillFelt(Hire hire) {

@@ -432,10 +432,20 @@ final class Model {
     Found coins(int a, int most) {
         int n = signs();
         int[] purse = new int[n];
+        int[] felt = new int[most + 1];
+        for (int coin = 0; coin <= most; coin++) {
+            felt[coin] = feltCoins(least + coin);
+        }
         Found best = null;
+        int lowest = Integer.MAX_VALUE;
         boolean isMore = true;
         while (isMore) {
-            if (isDoneInCoins(a, purse)) {
+            int paid = 0;
+            for (int s = 0; s < n; s++) {
+                paid += chances[a][s] * purse[s];
+            }
+            if (paid <= lowest && isDoneInCoins(a, purse, felt)) {
+                lowest = paid;
                 Ratio[] wages = new Ratio[n];
                 for (int s = 0; s < n; s++) {
                     wages[s] = Ratio.of(least + purse[s]);
@@ -470,19 +480,19 @@ final class Model {
         return sum;
     }
 
-    private boolean isDoneInCoins(int a, int[] purse) {
-        long own = worthTimesWhole(a, purse);
+    private boolean isDoneInCoins(int a, int[] purse, int[] felt) {
+        long own = worthTimesWhole(a, purse, felt);
         boolean isFine = own >= (long) whole * other;
         for (int b = 0; b < works() && isFine; b++) {
-            isFine = own >= worthTimesWhole(b, purse);
+            isFine = own >= worthTimesWhole(b, purse, felt);
         }
         return isFine;
     }
 
-    private long worthTimesWhole(int a, int[] purse) {
+    private long worthTimesWhole(int a, int[] purse, int[] felt) {
         long sum = -(long) whole * costs[a];
         for (int s = 0; s < signs(); s++) {
-            sum += (long) chances[a][s] * feltCoins(least + purse[s]);
+            sum += (long) chances[a][s] * felt[purse[s]];
         }
         return sum;
     }

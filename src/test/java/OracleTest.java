@@ -34,7 +34,7 @@ public final class OracleTest {
             String text = m.text();
             PaidBySigns x = Check.hired(text);
             for (int a = 0; a < m.works(); a++) {
-                coins(text, x, m, a, dice.nextInt(m.signs() == 4 ? 13 : 21));
+                coins(text, x, m, a, dice.nextInt(m.signs() == 4 && dice.nextInt(4) > 0 ? 13 : 21));
             }
         }
         for (int round = 0; round < rounds && check.wrong() < 20; round++) {
@@ -104,7 +104,7 @@ public final class OracleTest {
         Model.Found watch = m.watch(a, price);
         told(text + " watch(" + a + ", " + price + ")", x, x.watch(a, price), watch.cost(), watch.which());
 
-        coins(text, x, m, a, dice.nextInt(m.signs() == 4 ? 10 : 21));
+        coins(text, x, m, a, dice.nextInt(m.signs() == 4 && dice.nextInt(4) > 0 ? 10 : 21));
     }
 
     private static void coins(String text, PaidBySigns x, Model m, int a, int most) {

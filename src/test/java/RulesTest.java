@@ -20,6 +20,7 @@ public final class RulesTest {
         String bare = source.replaceAll("(?s)/\\*.*?\\*/", "").replaceAll("//[^\n]*", "")
             .replaceAll("\"[^\"\n]*\"", "\"\"");
         words(bare);
+        library(bare);
         methodsAreShort(bare);
         classes(bare);
         check.finish();
@@ -49,6 +50,17 @@ public final class RulesTest {
                 boolean isField = line.matches("\\s+(private )?(final )?[A-Za-z]+(\\[\\])* [a-zA-Z]+ = new .*;");
                 check.due("made by a call: " + line.trim(), isField ? 1 : 0, 1);
             }
+        }
+    }
+
+    /** Rule 4: of the library's classes only functions, and only those that the rules tell. */
+    private static void library(String bare) {
+        Matcher uses = Pattern.compile("\\b(Integer|Long|Math|Arrays|System|String|List|Character|Byte|Short|Boolean)"
+            + "\\s*\\.\\s*(\\w+)(\\s*\\()?").matcher(bare);
+        Set<String> told = Set.of("Integer.compare", "Math.abs", "Math.max", "Math.min", "Arrays.fill", "System.arraycopy");
+        while (uses.find()) {
+            String use = uses.group(1) + "." + uses.group(2);
+            check.due("of the library: " + use, told.contains(use) && uses.group(3) != null ? 1 : 0, 1);
         }
     }
 
