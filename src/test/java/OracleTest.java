@@ -117,13 +117,23 @@ public final class OracleTest {
     }
 
     private static void proofs(String text, PaidBySigns x, Model m, int a, Random dice) {
-        int[] press = new int[m.works()];
         int by = 1 + dice.nextInt(dice.nextBoolean() ? 9999 : 4);
+        int[] press = new int[m.works()];
         for (int b = 0; b < press.length; b++) {
             press[b] = dice.nextInt(2) == 0 ? 0 : dice.nextInt(1 + by / 2 + dice.nextInt(3));
+        }
+        proved(text, x, m, a, press, dice.nextInt(2) == 0 ? 0 : dice.nextInt(1 + by), by);
+        // Numbers as large as can be, whatever D is.
+        for (int b = 0; b < press.length; b++) {
+            press[b] = dice.nextInt(3) == 0 ? 9999 : dice.nextInt(1 + dice.nextInt(10000));
+        }
+        proved(text, x, m, a, press, dice.nextInt(3) == 0 ? 9999 : dice.nextInt(10000), by);
+    }
+
+    private static void proved(String text, PaidBySigns x, Model m, int a, int[] press, int ofElse, int by) {
+        for (int b = 0; b < press.length; b++) {
             x.press(b, press[b]);
         }
-        int ofElse = dice.nextInt(2) == 0 ? 0 : dice.nextInt(1 + by);
         x.press(PaidBySigns.NONE, ofElse);
         x.by(by);
         Ratio proved = m.proved(a, press, ofElse, by);
